@@ -85,7 +85,7 @@ public final class CutInCopies {
       return refuse(NOBODY);
     }
     board.cutAnew(n, x, y);
-    return board.size;
+    return board.pieceCount;
   }
 
   public int piece(int x, int y) {
@@ -124,7 +124,7 @@ public final class CutInCopies {
 
   public int pieces(int what) {
     if (what == 0) {
-      return board.size;
+      return board.pieceCount;
     }
     if (what == 1) {
       return board.atBorder();
@@ -616,7 +616,7 @@ public final class CutInCopies {
     int power;
     int holeX;
     int holeY;
-    int size;
+    int pieceCount;
     private int side;
     private final int[] cells;
     private final int[] ways;
@@ -646,7 +646,7 @@ public final class CutInCopies {
       side = 1 << newPower;
       holeX = x;
       holeY = y;
-      size = 0;
+      pieceCount = 0;
       for (int i = 0; i < cells.length; i++) {
         cells[i] = NONE;
       }
@@ -670,21 +670,21 @@ public final class CutInCopies {
     }
 
     private void lay(int way, int blockSize, int left, int top) {
-      if (size >= MOST_PIECES) {
+      if (pieceCount >= MOST_PIECES) {
         return;
       }
-      ways[size] = way;
-      sizes[size] = blockSize;
-      lefts[size] = left;
-      tops[size] = top;
+      ways[pieceCount] = way;
+      sizes[pieceCount] = blockSize;
+      lefts[pieceCount] = left;
+      tops[pieceCount] = top;
       for (int quarter = 0; quarter < WAYS; quarter++) {
         int x = left + (quarter & 1);
         int y = top + (quarter >> 1);
         if (quarter != way && has(x, y)) {
-          cells[y * STRIDE + x] = size;
+          cells[y * STRIDE + x] = pieceCount;
         }
       }
-      size++;
+      pieceCount++;
     }
 
     boolean has(int x, int y) {
@@ -692,7 +692,7 @@ public final class CutInCopies {
     }
 
     boolean hasPiece(int piece) {
-      return piece >= 0 && piece < size;
+      return piece >= 0 && piece < pieceCount;
     }
 
     int pieceAt(int x, int y) {
@@ -728,7 +728,7 @@ public final class CutInCopies {
       }
       touched[piece] = false;
       int others = 0;
-      for (int i = 0; i < size; i++) {
+      for (int i = 0; i < pieceCount; i++) {
         others += touched[i] ? 1 : 0;
       }
       return others;
@@ -750,7 +750,7 @@ public final class CutInCopies {
 
     int inWindow(int fromX, int toX, int fromY, int toY) {
       int inside = 0;
-      for (int i = 0; i < size; i++) {
+      for (int i = 0; i < pieceCount; i++) {
         boolean columns = lefts[i] >= fromX && lefts[i] + 1 <= toX;
         boolean rows = tops[i] >= fromY && tops[i] + 1 <= toY;
         inside += columns && rows ? 1 : 0;
@@ -759,19 +759,19 @@ public final class CutInCopies {
     }
 
     int atBorder() {
-      return size - inWindow(1, side - 2, 1, side - 2);
+      return pieceCount - inWindow(1, side - 2, 1, side - 2);
     }
 
     int lyingIn(int way) {
       int lying = 0;
-      for (int i = 0; i < size; i++) {
+      for (int i = 0; i < pieceCount; i++) {
         lying += ways[i] == way ? 1 : 0;
       }
       return lying;
     }
 
     Fraction likelihood(int way) {
-      return size == 0 ? Fraction.inLeastTerms(0, 1) : Fraction.inLeastTerms(lyingIn(way), size);
+      return pieceCount == 0 ? Fraction.inLeastTerms(0, 1) : Fraction.inLeastTerms(lyingIn(way), pieceCount);
     }
   }
 
@@ -896,8 +896,8 @@ public final class CutInCopies {
     int steadyWays(int way) {
       int now = 1 << way;
       int steady = 0;
-      // What can be reached at all is reached behind fewer cuts than there are ways, so the most cuts
-      // that can be asked for stand for all more of them.
+      // From the ways behind 4 cuts, whatever more cuts lead to is reached in fewer steps than there are
+      // ways: the most cuts that can be asked for are enough to stand for any number of them.
       for (int cuts = 1; cuts <= MOST_CUTS; cuts++) {
         now = waysBehind(now);
         steady |= cuts >= STEADY_FROM ? now : 0;
@@ -1367,7 +1367,6 @@ public final class CutInCopies {
 
     void clear() {
       size = 0;
-      statements = 0;
     }
 
     /** The letter at a place; behind the last one the sign 0, with which nothing goes on. */

@@ -208,6 +208,40 @@ public final class PointsTest {
     due.is("22 all three", y.sum(7, 0), Due.FAR + 3);
     due.is("22 the last two", y.sum(6, 1), 83 * 79 * 73 * 71);
     due.refusals("22", y, 0, 0, 1, 0, 0);
+    sumJustTold();
+    sumTooGreatOnTheWay();
+  }
+
+  private static void sumJustTold() {
+    // 39610 by 854667 and 1170 make 1000000000 by 854667.
+    CutInCopies x = withPoints(199, 1, 8197, 1, 199, 589, 1, 1, 9001, 1, 1, 1301);
+    x.triangle(2, 0, 1, 2);
+    x.triangle(2, 3, 4, 5);
+    due.is("22 first above", x.area(0, 0), 39610);
+    due.is("22 second above", x.area(1, 0), 1170);
+    due.is("22 greatest above", x.sum(3, 0), 1000000000L);
+    due.is("22 below it", x.sum(3, 1), 854667);
+    // 561665 by 800832 and 1248 make 1000000001 by 800832.
+    CutInCopies y = withPoints(897, 1, 9796, 1, 897, 6586, 1, 1, 9601, 1, 1, 1301);
+    y.triangle(2, 0, 1, 2);
+    y.triangle(2, 3, 4, 5);
+    due.is("22 first above", y.area(0, 0), 561665);
+    due.is("22 second above", y.area(1, 0), 1248);
+    due.is("22 one too great", y.sum(3, 0), Due.FAR + 3);
+  }
+
+  private static void sumTooGreatOnTheWay() {
+    // The first and the second make too great a number, though the third would make it small again.
+    CutInCopies x = withPoints(1, 1, 183, 1, 101, 1, 1, 179, 197, 1, 9495, 1, 1, 189);
+    x.triangle(2, 4, 5, 6);
+    x.triangle(2, 0, 1, 3);
+    x.triangle(2, 1, 2, 3);
+    x.triangle(2, 4, 5, 6);
+    due.is("22 the two that fit", x.sum(6, 1), 79);
+    due.is("22 too great on the way", x.sum(7, 1), Due.FAR + 3);
+    due.is("22 by numbers, as they fit", x.sum(14, 0), 1532952);
+    due.is("22 by numbers, as they fit, below", x.sum(14, 1), 64790665);
+    due.refusals("22", x, 0, 0, 1, 0, 0);
   }
 
   private static void even() {

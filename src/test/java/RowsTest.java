@@ -36,8 +36,10 @@ public final class RowsTest {
     due.is("27 no place more", x.racked(0, 9, 0), -13);
     due.is("27 of none", x.rack(2, 5, 0), 1);
     due.is("27 no place at all", x.racked(2, 0, 0), -13);
+    x.racks(0, 0, 1);
     x.racks(0, 3, 4);
     due.is("27 anew", x.rack(0, 0, 4), 1);
+    due.is("27 anew is empty at first", x.racked(0, 0, 0), -9);
     due.is("27 anew is empty", x.racked(0, 3, 0), -9);
     due.is("27 anew is shorter", x.racked(0, 4, 0), -13);
     due.is("27 greater again", x.rack(0, 2, 9), 1);
@@ -187,8 +189,10 @@ public final class RowsTest {
     for (int i = 0; i < 40; i += 13) {
       due.is("31 all 0", x.look(0, i), 0);
     }
+    x.put(0, 0, 5);
     x.put(0, 39, 7);
     due.is("31 anew", x.list(0, 40), 1);
+    due.is("31 anew all 0 from the first", x.look(0, 0), 0);
     due.is("31 anew all 0", x.look(0, 39), 0);
     due.is("31 of none", x.list(2, 0), 1);
     due.is("31 of none has no place", x.put(2, 0, 1), -13);

@@ -185,6 +185,8 @@ public final class RuleTest {
     due.is("15 never", never.falls(3), -9);
     due.is("15 three alike", withRule("0012001200120012").falls(0), -9);
     due.is("15 two and two", withRule("0011001100110011").falls(0), -9);
+    due.is("15 all in one", withRule("3333333333333333").falls(0), -9);
+    due.is("15 behind six", withRule("1111222200332222").falls(0), 6);
     due.is("15 two by two", withRule("0011223300001111").falls(0), 2);
     due.is("15 way", x.falls(4), -2);
     due.is("15 way below", x.falls(-1), -2);

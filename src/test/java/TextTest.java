@@ -171,6 +171,7 @@ public final class TextTest {
     fault("p01010101;p02010101;t0012;p01010201;", -2020);
     fault("b20000;b50000;b60000;", -2007);
     fault(THREE_POINTS + "t0012;b50000;t0019;", -2036);
+    fault("p01010101;p02010101;b00000;r00000;t0012;", -2034);
     CutInCopies x = new CutInCopies();
     due.is("3 points", Due.text(x, THREE_POINTS), 3);
     due.is("3 points of an earlier text", Due.text(x, "t0012;"), 1);
@@ -186,13 +187,13 @@ public final class TextTest {
     due.is("3 eleven", Due.text(x, THREE_POINTS + "p01010101;p01010101;"), -2040);
     due.is("3 still six", x.count(1), 6);
     due.is("3 nine", Due.text(x, THREE_POINTS), 3);
-    due.is("3 ten", Due.text(x, "p01010101;"), 1);
+    due.is("3 ten", Due.text(x, "b00000;r00000;p01010101;"), 3);
     due.is("3 ten there are", Due.text(x, "b00000;p01010101;"), -2007);
     String four = "t0012;t0129;t0987;t5456;";
     due.is("3 eight triangles", Due.text(x, four + four), 8);
     due.is("3 twelve", Due.text(x, four), -2012);
     due.is("3 still eight", x.count(2), 8);
-    due.is("3 ten triangles", Due.text(x, "t0012;t0129;"), 2);
+    due.is("3 ten triangles", Due.text(x, "t0012;b00000;r00000;t0129;"), 4);
     due.is("3 ten triangles there are", Due.text(x, "t0012;"), -2000);
     due.is("3 ten", x.count(2), 10);
     due.refusals("3", x, 0, 0, 0, 0, 0);
