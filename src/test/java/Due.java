@@ -12,6 +12,14 @@ final class Due {
     }
   }
 
+  void same(String when, String got, String want) {
+    asked++;
+    if (!got.equals(want)) {
+      wrong++;
+      System.out.println(when + ":\n  seen is " + got + "\n  due is  " + want);
+    }
+  }
+
   /** The refusals -1 .. -6 that an object has counted so far. */
   void refusals(String when, CutInCopies x, int nobody, int other, int state, int below, int room) {
     is(when + ": count(11)", x.count(11), nobody);
