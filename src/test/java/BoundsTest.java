@@ -426,12 +426,12 @@ public final class BoundsTest {
   private static void areas() {
     // 0, 0; 3, 0; 0, 5, told either way about: a plain one's area is 15 by 2.
     String[] points = {"point(1, 1)", "point(301, 1)", "point(1, 501)"};
-    int[][] due = {{15, 2}, {15, 4}, {15, 1}, {15, 2}, {15, 8}, {0, 1}};
+    int[][] areas = {{15, 2}, {15, 4}, {15, 1}, {15, 2}, {15, 8}, {0, 1}};
     for (int kind = 0; kind < 6; kind++) {
       Run run = run("area of kind " + kind).with(points);
       run.with("triangle(" + kind + ", 0, 1, 2)", "triangle(" + kind + ", 0, 2, 1)", "triangle(" + kind + ", 2, 0, 1)");
       for (int i = 0; i < 3; i++) {
-        run.is("area(" + i + ", 0)", due[kind][0]).is("area(" + i + ", 1)", due[kind][1]);
+        run.is("area(" + i + ", 0)", areas[kind][0]).is("area(" + i + ", 1)", areas[kind][1]);
       }
     }
     // The greatest area: twice half of 99 by 99.
@@ -478,9 +478,14 @@ public final class BoundsTest {
     Run great = rightAngles("1000000440 below in the sum", 172, 189, 159, 105, 123, 123);
     great.refused("sum(7, 0)", -3).refused("sum(7, 1)", -3).is("sum(3, 1)", 6408 * 295).is("sum(6, 1)", 295 * 529);
     great.refusals(0, 0, 2, 0, 0);
-    Run most = rightAngles("1000000000 above in the sum", 8197, 589);
-    most.with("point(9001, 1)", "point(1, 1301)", "triangle(2, 0, 3, 4)", "triangle(5, 0, 1, 2)");
-    most.is("sum(2, 0)", 1170).is("sum(4, 0)", 0).is("sum(4, 1)", 1).is("sum(6, 0)", 1170).is("sum(0, 1)", 1);
+    // 39610 by 854667 and 1170; 561665 by 800832 and 1248: the first just fits, the second is one more.
+    Run most = run("1000000000 above in the sum").with("point(199, 1)", "point(8197, 1)", "point(199, 589)");
+    most.with("point(1, 1)", "point(9001, 1)", "point(1, 1301)", "triangle(2, 0, 1, 2)", "triangle(2, 3, 4, 5)");
+    most.is("sum(3, 0)", 1000000000).is("sum(3, 1)", 854667).is("sum(1, 0)", 39610).is("sum(2, 0)", 1170);
+    Run over = run("1000000001 above in the sum").with("point(897, 1)", "point(9796, 1)", "point(897, 6586)");
+    over.with("point(1, 1)", "point(9601, 1)", "point(1, 1301)", "triangle(2, 0, 1, 2)", "triangle(2, 3, 4, 5)");
+    over.refused("sum(3, 0)", -3).refused("sum(3, 1)", -3).is("sum(1, 0)", 561665).is("sum(2, 0)", 1248);
+    over.refusals(0, 0, 2, 0, 0);
   }
 
   private static void evenOnes() {

@@ -3,6 +3,8 @@ import java.lang.reflect.Modifier;
 import java.nio.file.Files;
 import java.nio.file.Path;
 import java.util.TreeSet;
+import java.util.regex.Matcher;
+import java.util.regex.Pattern;
 
 /** The face is the document's and no more, and the source holds nothing that LANGUAGE.md rules out. */
 public final class LanguageTest {
@@ -23,6 +25,7 @@ public final class LanguageTest {
     }
     due.is("signs above 127", source.chars().filter(sign -> sign > 127).count(), 0);
     longMethods(source);
+    library(source);
     due.end();
   }
 
@@ -43,10 +46,46 @@ public final class LanguageTest {
     due.is("methods of the face", told.equals(face) ? 1 : 0, 1);
     due.is("constructors", CutInCopies.class.getDeclaredConstructors().length, 1);
     due.is("classes", CutInCopies.class.getDeclaredClasses().length <= 11 ? 1 : 0, 1);
+    members(CutInCopies.class, face);
     for (Class<?> inside : CutInCopies.class.getDeclaredClasses()) {
       due.is(inside + " static", Modifier.isStatic(inside.getModifiers()) ? 1 : 0, 1);
+      due.is(inside + " public", Modifier.isPublic(inside.getModifiers()) ? 1 : 0, 0);
       due.is(inside + " fields", inside.getDeclaredFields().length <= 20 ? 1 : 0, 1);
+      members(inside, face);
     }
+  }
+
+  /** What holds for each class of the file: no state that is static, few parameters, no name of the face hidden. */
+  private static void members(Class<?> one, TreeSet<String> face) {
+    for (var field : one.getDeclaredFields()) {
+      boolean isStatic = Modifier.isStatic(field.getModifiers());
+      due.is("static and not final: " + field, isStatic && !Modifier.isFinal(field.getModifiers()) ? 1 : 0, 0);
+    }
+    for (var method : one.getDeclaredMethods()) {
+      boolean hidden = Modifier.isPrivate(method.getModifiers()) && face.contains(method.getName());
+      due.is("private by a name of the face: " + method, hidden ? 1 : 0, 0);
+      due.is("parameters of " + method, method.getParameterCount() <= 7 ? 1 : 0, 1);
+    }
+    for (var constructor : one.getDeclaredConstructors()) {
+      due.is("parameters of " + constructor, constructor.getParameterCount() <= 7 ? 1 : 0, 1);
+    }
+  }
+
+  /** The library's functions that are used are among those that LANGUAGE.md lists. */
+  private static void library(String source) {
+    TreeSet<String> own = new TreeSet<>();
+    for (Class<?> inside : CutInCopies.class.getDeclaredClasses()) {
+      own.add(inside.getSimpleName());
+    }
+    String code = source.replaceAll("(?s)/\\*.*?\\*/", "").replaceAll("//.*", "");
+    Matcher used = Pattern.compile("\\b([A-Z]\\w*)\\.(\\w+)").matcher(code);
+    while (used.find()) {
+      boolean listed = own.contains(used.group(1)) || used.group().equals("Math.abs")
+          || used.group().equals("System.arraycopy");
+      due.is("listed: " + used.group(), listed ? 1 : 0, 1);
+    }
+    due.is("objects of the library", Pattern.compile("new (Integer|String|StringBuilder|Array)").matcher(code)
+        .find() ? 1 : 0, 0);
   }
 
   private static void onlyPrivate(Member member) {
