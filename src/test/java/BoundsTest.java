@@ -24,6 +24,7 @@ public final class BoundsTest {
     areas();
     sumsOfOne();
     sumsOfSome();
+    sumsThatFitOfAreasThatDoNot();
     evenOnes();
     alike();
     floats();
@@ -486,6 +487,23 @@ public final class BoundsTest {
     over.with("point(1, 1)", "point(9601, 1)", "point(1, 1301)", "triangle(2, 0, 1, 2)", "triangle(2, 3, 4, 5)");
     over.refused("sum(3, 0)", -3).refused("sum(3, 1)", -3).is("sum(1, 0)", 561665).is("sum(2, 0)", 1248);
     over.refusals(0, 0, 2, 0, 0);
+  }
+
+  /** A number of one area alone is too great; it is less again in the sum, and none but that one is in the way. */
+  private static void sumsThatFitOfAreasThatDoNot() {
+    // 1549106109 by 4566200 behind 739749 by 1141550: together 310413021 by 913240.
+    Run above = run("too great above in one area").with("point(5702, 179)", "point(5685, 1185)");
+    above.with("point(5985, 4902)", "point(3985, 2579)", "triangle(4, 0, 1, 3)", "triangle(0, 0, 1, 2)");
+    above.is("area(0, 0)", 739749).is("area(0, 1)", 1141550).is("area(1, 0)", 1549106109).is("area(1, 1)", 4566200);
+    above.is("sum(1, 0)", 739749).refused("sum(2, 0)", -3).refused("sum(3, 0)", -3).refused("sum(3, 1)", -3);
+    // 707404387 by 1000000440 behind the double of it: together 707404387 by 333333480.
+    Run below = run("too great below in one area").with("point(5746, 5290)", "point(8359, 4818)");
+    below.with("point(5189, 3346)", "triangle(2, 0, 1, 2)", "triangle(0, 0, 1, 2)");
+    below.is("area(0, 0)", 707404387).is("area(0, 1)", 500000220).is("area(1, 0)", 707404387);
+    below.is("area(1, 1)", 1000000440).is("sum(1, 1)", 500000220).refused("sum(2, 1)", -3);
+    below.refused("sum(3, 0)", -3).refused("sum(3, 1)", -3);
+    above.refusals(0, 0, 3, 0, 0);
+    below.refusals(0, 0, 3, 0, 0);
   }
 
   private static void evenOnes() {
